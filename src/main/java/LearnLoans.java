@@ -847,7 +847,10 @@ public final class LearnLoans {
 
         private void readChain(int level, int deep) {
             if (level >= UNIT) {
-                readUnit(deep);
+                int begin = place;
+                int end = passSigns();
+                readPlain(deep);
+                emitSigns(begin, end);
                 return;
             }
             readChain(level + 1, deep);
@@ -871,20 +874,19 @@ public final class LearnLoans {
             }
         }
 
-        private void readUnit(int deep) {
-            if (wrong != NONE) {
-                return;
-            }
-            int begin = place;
+        /** Passes the signs ahead of a unit; answers where they end. */
+        private int passSigns() {
             int sign = next();
             while (place < size && (sign == '!' || sign == '-')) {
                 place++;
                 sign = next();
             }
-            int end = place;
-            readPlain(sign, deep);
-            // The sign nearest to the unit works first.
-            for (int i = end - 1; i >= begin; i--) {
+            return place;
+        }
+
+        /** The sign nearest to the unit works first. */
+        private void emitSigns(int begin, int end) {
+            for (int i = end - 1; i >= begin && i < SIGNS; i--) {
                 if (signs[i] == '!') {
                     emit(-'!');
                 } else if (signs[i] == '-') {
@@ -893,7 +895,11 @@ public final class LearnLoans {
             }
         }
 
-        private void readPlain(int sign, int deep) {
+        private void readPlain(int deep) {
+            int sign = next();
+            if (wrong != NONE) {
+                return;
+            }
             if (isDigit(sign)) {
                 readDigits();
             } else if (operands(sign) == 0) {
@@ -1104,7 +1110,19 @@ public final class LearnLoans {
 
         void turn(int year) {
             for (int i = 0; i < size; i++) {
-                settle(mine[i], year);
+                int loan = mine[i];
+                long owed = sums[OWED * LOANS + loan];
+                boolean struck = isStruck(loan, year);
+                sums[STRUCK * LOANS + loan] = struck ? owed : 0;
+                sums[GROWN * LOANS + loan] = 0;
+                if (struck) {
+                    sums[OWED * LOANS + loan] = 0;
+                    continue;
+                }
+                if (owed > 0) {
+                    grow(loan, rateOf(loan, year));
+                }
+                draw(loan, year);
             }
             lineUp(year);
             if (due > 0) {
@@ -1113,23 +1131,22 @@ public final class LearnLoans {
             takeAll(year);
         }
 
-        /** (a) to (d) of one LOAN: what goes on in another LOAN doesn't matter to them. */
-        private void settle(int loan, int year) {
-            int drawn = house.loans.at(loan, LOAN_YEAR);
+        private boolean isStruck(int loan, int year) {
+            int since = year - house.loans.at(loan, LOAN_YEAR);
+            return dead || since >= numbers[cellOf(loan, year) + TILL_STRUCK];
+        }
+
+        private void grow(int loan, int rate) {
             long owed = sums[OWED * LOANS + loan];
-            sums[STRUCK * LOANS + loan] = 0;
-            sums[GROWN * LOANS + loan] = 0;
-            if (dead || year - drawn >= numbers[cellOf(loan, year) + TILL_STRUCK]) {
-                sums[STRUCK * LOANS + loan] = owed;
-                sums[OWED * LOANS + loan] = 0;
-                return;
-            }
-            if (owed > 0) {
-                long grown = Math.min(owed * rateOf(loan, year) / 1000, MOST_OWED - owed);
-                sums[GROWN * LOANS + loan] = grown;
-                owed += grown;
-            }
-            if (year == drawn) {
+            long grown = Math.min(owed * rate / 1000, MOST_OWED - owed);
+            sums[GROWN * LOANS + loan] = grown;
+            sums[OWED * LOANS + loan] = owed + grown;
+        }
+
+        /** What is drawn in this YEAR comes, what is given back in it goes. */
+        private void draw(int loan, int year) {
+            long owed = sums[OWED * LOANS + loan];
+            if (year == house.loans.at(loan, LOAN_YEAR)) {
                 owed += house.loans.at(loan, LOAN_SUM);
             }
             if (year == house.loans.at(loan, LOAN_LEFT)) {
