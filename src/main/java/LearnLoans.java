@@ -150,7 +150,7 @@ public final class LearnLoans {
         if (house.acts.size >= ACTS) {
             return FULL;
         }
-        return house.acts.add(plan, what, v, from, beganFrom, beganTo);
+        return house.addAct(plan, what, v, from, beganFrom, beganTo);
     }
 
     public int force(int plan, int what, int person, int year) {
@@ -169,7 +169,10 @@ public final class LearnLoans {
         if (loans.size >= LOANS) {
             return FULL;
         }
-        int loan = loans.add(person, plan, year, sum, fee ? 1 : 0, NONE);
+        int loan = loans.add(person, plan, year);
+        loans.put(loan, LOAN_SUM, sum);
+        loans.put(loan, LOAN_FEE, fee ? 1 : 0);
+        loans.put(loan, LOAN_LEFT, NONE);
         loans.put(loan, LOAN_BOOK, NONE);
         loans.put(loan, LOAN_SOLD, NONE);
         lay(house.planAt, loan * YEARS, loan * YEARS + LAST_YEAR, plan);
@@ -198,7 +201,7 @@ public final class LearnLoans {
         if (house.moves.size >= MOVES) {
             return FULL;
         }
-        house.moves.add(loan, plan, year, 0, 0, 0);
+        house.moves.add(loan, plan, year);
         // The latest told counts, whatever its YEAR: it goes over all that was told before.
         lay(house.planAt, loan * YEARS + year, loan * YEARS + LAST_YEAR, plan);
         return 1;
@@ -295,7 +298,7 @@ public final class LearnLoans {
         if (house.promises.size >= PROMISES) {
             return FULL;
         }
-        return house.promises.add(book, year, pence, 0, 0, 0) + 1;
+        return house.promises.add(book, year, pence) + 1;
     }
 
     public long book(int book, int year, int k, int what) {
@@ -549,7 +552,7 @@ public final class LearnLoans {
 
     private long takenIf(int plan, int what, int v, int from, int year) {
         // The rows have room for one ACT more than may be told, so that this one always fits.
-        house.acts.add(plan, what, v, from, 0, LAST_YEAR);
+        house.addAct(plan, what, v, from, 0, LAST_YEAR);
         long taken = 0;
         for (int person = 0; person < house.people.size; person++) {
             run.begin(person, LAST_YEAR);
@@ -594,14 +597,11 @@ public final class LearnLoans {
             }
         }
 
-        /** Numbers beyond the rows' width are left out. */
-        int add(int a, int b, int c, int d, int e, int f) {
+        /** A row more, of which the first three numbers are told; answers its number. */
+        int add(int a, int b, int c) {
             put(size, 0, a);
             put(size, 1, b);
             put(size, 2, c);
-            put(size, 3, d);
-            put(size, 4, e);
-            put(size, 5, f);
             size++;
             return size - 1;
         }
@@ -707,6 +707,14 @@ public final class LearnLoans {
             }
         }
 
+        int addAct(int plan, int what, int v, int from, int beganFrom, int beganTo) {
+            int act = acts.add(plan, what, v);
+            acts.put(act, ACT_FROM, from);
+            acts.put(act, ACT_BEGAN_FROM, beganFrom);
+            acts.put(act, ACT_BEGAN_TO, beganTo);
+            return act;
+        }
+
         long givenBack(int loan) {
             long sum = loans.at(loan, LOAN_SUM);
             int since = loans.at(loan, LOAN_LEFT) - loans.at(loan, LOAN_YEAR);
@@ -753,7 +761,7 @@ public final class LearnLoans {
      */
     private static final class Text {
         private static final int OR = 0, AND = 1, HELD = 2, SUM = 3, TERM = 4, UNIT = 5;
-        private static final int MOST_DEEP = 60;
+        private static final int MOST_DEEP = 40;
 
         private final int[] signs = new int[SIGNS];
         private final int[] code = new int[SIGNS];
@@ -1055,9 +1063,10 @@ public final class LearnLoans {
         }
 
         void go(int to) {
-            for (; nextYear <= to && nextYear < YEARS; nextYear++) {
-                look(nextYear);
-                turn(nextYear);
+            for (int year = nextYear; year <= to && year < YEARS; year++) {
+                look(year);
+                turn(year);
+                nextYear = year + 1;
             }
         }
 
@@ -1094,15 +1103,15 @@ public final class LearnLoans {
 
         void look(int year) {
             if (life != NONE) {
-                look(house.lives[life * YEARS + year], 0, false);
+                suppose(house.lives[life * YEARS + year], 0, false);
             } else {
-                look(house.people.earned(person, year, known),
+                suppose(house.people.earned(person, year, known),
                         house.people.lands[person * YEARS + year],
                         house.people.isDead(person, year));
             }
         }
 
-        void look(int earned, int land, boolean dead) {
+        void suppose(int earned, int land, boolean dead) {
             this.earned = earned;
             this.land = land;
             this.dead = dead;
@@ -1207,8 +1216,8 @@ public final class LearnLoans {
             long ahead = 0;
             for (int i = 0; i < size; i++) {
                 int loan = queue[i];
-                long asked = Math.max(0, asked(cellOf(loan, year)) - ahead);
-                long taken = Math.min(asked, sums[OWED * LOANS + loan]);
+                long rest = Math.max(0, asked(cellOf(loan, year)) - ahead);
+                long taken = Math.min(rest, sums[OWED * LOANS + loan]);
                 ahead += taken;
                 sums[OWED * LOANS + loan] -= taken;
                 sums[TAKEN * LOANS + loan] = taken;
@@ -1271,7 +1280,7 @@ public final class LearnLoans {
             Run run = w.run;
             System.arraycopy(w.owedAhead, deep * LOANS, run.sums, OWED * LOANS, LOANS);
             int earned = state == WORK ? w.pence : state == GAP ? 0 : NONE;
-            run.look(earned, state == ABROAD ? 1 : 0, state == DEAD);
+            run.suppose(earned, state == ABROAD ? 1 : 0, state == DEAD);
             run.turn(w.year + deep);
             taken += run.together(TAKEN);
             struck += run.together(STRUCK);

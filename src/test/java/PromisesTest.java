@@ -698,7 +698,9 @@ public final class PromisesTest {
         tells(x, "(2<3)*10+(3<2)", 10);
         tells(x, "(2>3)*10+(3>2)", 1);
         tells(x, "(2=2)*10+(3=2)", 10);
+        tells(x, "(2<2)+(2>2)*10", 0);
         tells(x, "2<3+1", 1);
+        tells(x, "(1&1)+(1&2)*10+(2&1)*100", 111);
         tells(x, "(5|0)+(0|0)*10", 1);
         tells(x, "(5&7)+(5&0)*10", 1);
         tells(x, "1|0&0", 1);
@@ -830,6 +832,11 @@ public final class PromisesTest {
         free.live(0, 0, 39, 40000);
         is("27 as much", free.early(0, 50000, 2, 39), 0);
         is("27 nothing owed", free.early(0, 50000, 39, 39), 0);
+        LearnLoans penny = house(500);
+        penny.loan(0, 0, 0, 1000, false);
+        penny.live(0, 2, 2, 90000);
+        // 2250 are taken without; with a penny paid 999, 1498 and 2247.
+        is("27 a penny", penny.early(0, 1, 0, 39), 1);
         is("27 sum 0", x.early(0, 0, 2, 39), BAD);
         is("27 sum too great", x.early(0, 1000000001, 2, 39), BAD);
         is("27 no such person", x.early(1, 1, 2, 39), BAD);
@@ -912,6 +919,9 @@ public final class PromisesTest {
         is("29 eleven", x.chances(0, 4, 3, 2, 2), BAD);
         is("29 below 0", x.chances(0, 11, -1, 0, 0), BAD);
         is("29 gap below 0", x.chances(0, -1, 11, 0, 0), BAD);
+        is("29 abroad below 0", x.chances(0, 0, 11, -1, 0), BAD);
+        is("29 dead below 0", x.chances(0, 0, 0, 11, -1), BAD);
+        is("29 all of it dead", x.chances(1, 0, 0, 0, 10), 1);
         is("29 state 3", x.chances(3, 0, 0, 0, 10), BAD);
         is("29 state -1", x.chances(-1, 10, 0, 0, 0), BAD);
         is("29 so great that they come round", x.chances(0, BIG, BIG, 10, 2), BAD);
@@ -966,6 +976,14 @@ public final class PromisesTest {
         is("30 dead ahead of it", x.foretold(0, 0, 20000, 2, 1, 0), 0);
         x.act(0, 3, 2, 0, 0, 39);
         is("30 struck by its years", x.foretold(0, 0, 20000, 1, 3, 3), 3900000);
+        LearnLoans y = house(0);
+        y.loan(0, 0, 0, 10000, false);
+        y.land(0, 3, 0, 39);
+        y.act(0, 5, 0, 0, 0, 39);
+        write(y, 0, "(a+1)*10+e+2");
+        is("30 abroad: land 1, no earnings", y.foretold(0, 2, 0, 1, 1, 3), 10000 + 210);
+        is("30 gap: earnings 0, at home", y.foretold(0, 1, 7, 1, 1, 3), 10000 + 120);
+        is("30 work: earnings as told, at home", y.foretold(0, 0, 7, 1, 1, 3), 10000 + 190);
     }
 
     // ---- 31
@@ -1104,6 +1122,15 @@ public final class PromisesTest {
         is("36 not dead", x.dies(0, 39), 1);
         is("36 again", x.from(0), 1);
         is("36 digest again", x.digest(), digest);
+        LearnLoans y = house(0);
+        y.earn(0, 2, 50000, 3);
+        y.image(0);
+        y.right(0, 2, 60000, 3);
+        y.image(1);
+        y.from(0);
+        y.right(0, 2, 70000, 3);
+        y.from(1);
+        is("36 as it was put right", y.earnings(0, 2, 3), 60000);
         is("36 all answers again", answers(x), answers);
     }
 
