@@ -638,87 +638,88 @@ public final class PromisesTest {
             "r?p:e", "r?p?1:2:3", "r?1:p?2:3", "(1<2)<3", "1<2&2<3", "((((((((1))))))))", "(1)+(2)", "1 2".replace(" ", "+"),
             "((((((((1))))))))+((((((((1))))))))", "r?(p?1:2):(3)", "1---2", "1-!-2"};
         for (String text : fine) {
-            write(x, 0, text);
-            is("22 " + text, x.fault(0), NONE);
+            faultAt(text, NONE);
         }
-        faultAt(x, "", 1);
-        faultAt(x, "  ", 21);
-        faultAt(x, "x", 1);
-        faultAt(x, "r x", 21);
-        faultAt(x, "r r", 21);
-        faultAt(x, "1 2", 21);
-        faultAt(x, "1+", 21);
-        faultAt(x, "1+ ", 31);
-        faultAt(x, "+1", 1);
-        faultAt(x, "1<2<3", 31);
-        faultAt(x, "1=2>3", 31);
-        faultAt(x, "r?p", 31);
-        faultAt(x, "r?p:", 41);
-        faultAt(x, "r:p", 11);
-        faultAt(x, "r?p:e:l", 51);
-        faultAt(x, "(r", 21);
-        faultAt(x, "(r?1)", 41);
-        faultAt(x, "()", 11);
-        faultAt(x, "r)", 11);
-        faultAt(x, "1234567", 2);
-        faultAt(x, "r+12345678", 22);
-        faultAt(x, "1234567x", 2);
-        faultAt(x, "x1234567", 1);
-        faultAt(x, "123456 7", 71);
-        faultAt(x, "(((((((((1", 83);
-        faultAt(x, "((((((((1(", 91);
-        faultAt(x, " ( ( ( ( ( ( ( ( ( 1", 173);
-        faultAt(x, "!", 11);
-        faultAt(x, "R", 1);
-        faultAt(x, "~r", 1);
-        faultAt(x, "\tr", 1);
-        texts(x);
+        faultAt("", 1);
+        faultAt("  ", 21);
+        faultAt("x", 1);
+        faultAt("r x", 21);
+        faultAt("r r", 21);
+        faultAt("1 2", 21);
+        faultAt("1+", 21);
+        faultAt("1+ ", 31);
+        faultAt("+1", 1);
+        faultAt("1<2<3", 31);
+        faultAt("1=2>3", 31);
+        faultAt("r?p", 31);
+        faultAt("r?p:", 41);
+        faultAt("r:p", 11);
+        faultAt("r?p:e:l", 51);
+        faultAt("(r", 21);
+        faultAt("(r?1)", 41);
+        faultAt("()", 11);
+        faultAt("r)", 11);
+        faultAt("1234567", 2);
+        faultAt("r+12345678", 22);
+        faultAt("1234567x", 2);
+        faultAt("x1234567", 1);
+        faultAt("123456 7", 71);
+        faultAt("(((((((((1", 83);
+        faultAt("((((((((1(", 91);
+        faultAt(" ( ( ( ( ( ( ( ( ( 1", 173);
+        faultAt("!", 11);
+        faultAt("R", 1);
+        faultAt("~r", 1);
+        faultAt("\tr", 1);
+        texts();
     }
 
-    private static void faultAt(LearnLoans x, String text, int fault) {
+    private static void faultAt(String text, int fault) {
+        LearnLoans x = new LearnLoans();
         write(x, 0, text);
         is("22 " + text, x.fault(0), fault);
     }
 
-    private static void texts(LearnLoans x) {
-        x.person(0);
-        x.loan(0, 0, 0, 1000, false);
-        tells(x, "1+2*3", 7);
-        tells(x, "(1+2)*3", 9);
-        tells(x, "20-5-4", 11);
-        tells(x, "100/7/2", 7);
-        tells(x, "9/2*4", 16);
-        tells(x, "(0-7)/2+10", 7);
-        tells(x, "5/0+3", 3);
-        tells(x, "-2*-3", 6);
-        tells(x, "10--5", 15);
-        tells(x, "!0+!7*5", 1);
-        tells(x, "-!0+5", 4);
-        tells(x, "!-1+5", 5);
-        tells(x, "(2<3)*10+(3<2)", 10);
-        tells(x, "(2>3)*10+(3>2)", 1);
-        tells(x, "(2=2)*10+(3=2)", 10);
-        tells(x, "(2<2)+(2>2)*10", 0);
-        tells(x, "2<3+1", 1);
-        tells(x, "(1&1)+(1&2)*10+(2&1)*100", 111);
-        tells(x, "(5|0)+(0|0)*10", 1);
-        tells(x, "(5&7)+(5&0)*10", 1);
-        tells(x, "1|0&0", 1);
-        tells(x, "0&0|1", 1);
-        tells(x, "2&3<4", 1);
-        tells(x, "7?20:30", 20);
-        tells(x, "0?20:30", 30);
-        tells(x, "0-1?20:30", 20);
-        tells(x, "0?1:0?2:3", 3);
-        tells(x, "1?0?11:12:13", 12);
-        tells(x, "(999999*999999*999999*999999>0)*9+1",
+    private static void texts() {
+        tells("1+2*3", 7);
+        tells("(1+2)*3", 9);
+        tells("20-5-4", 11);
+        tells("100/7/2", 7);
+        tells("9/2*4", 16);
+        tells("(0-7)/2+10", 7);
+        tells("5/0+3", 3);
+        tells("-2*-3", 6);
+        tells("10--5", 15);
+        tells("!0+!7*5", 1);
+        tells("-!0+5", 4);
+        tells("!-1+5", 5);
+        tells("(2<3)*10+(3<2)", 10);
+        tells("(2>3)*10+(3>2)", 1);
+        tells("(2=2)*10+(3=2)", 10);
+        tells("(2<2)+(2>2)*10", 0);
+        tells("2<3+1", 1);
+        tells("(1&1)+(1&2)*10+(2&1)*100", 111);
+        tells("(5|0)+(0|0)*10", 1);
+        tells("(5&7)+(5&0)*10", 1);
+        tells("1|0&0", 1);
+        tells("0&0|1", 1);
+        tells("2&3<4", 1);
+        tells("7?20:30", 20);
+        tells("0?20:30", 30);
+        tells("0-1?20:30", 20);
+        tells("0?1:0?2:3", 3);
+        tells("1?0?11:12:13", 12);
+        tells("(999999*999999*999999*999999>0)*9+1",
             999999L * 999999 * 999999 * 999999 > 0 ? 10 : 1);
-        tells(x, " 4 * ( 5 + 1 ) ", 24);
-        tells(x, "r", 30);
-        tells(x, "((((((((7))))))))+((((((((8))))))))", 15);
+        tells(" 4 * ( 5 + 1 ) ", 24);
+        tells("r", 30);
+        tells("((((((((7))))))))+((((((((8))))))))", 15);
     }
 
-    private static void tells(LearnLoans x, String text, int rate) {
+    private static void tells(String text, int rate) {
+        LearnLoans x = new LearnLoans();
+        x.person(0);
+        x.loan(0, 0, 0, 1000, false);
         write(x, 0, text);
         is("22 " + text, x.rate(0, 1, 39), rate);
     }
@@ -1131,7 +1132,6 @@ public final class PromisesTest {
         y.right(0, 2, 70000, 3);
         y.from(1);
         is("36 as it was put right", y.earnings(0, 2, 3), 60000);
-        is("36 all answers again", answers(x), answers);
     }
 
     private static void fill(LearnLoans x) {
