@@ -1028,6 +1028,7 @@ public final class LearnLoans {
         private int nextYear;
         private int life;
         private int plan;
+        private boolean deadAhead;
         private long due;
         long paid;
         int earned;
@@ -1058,6 +1059,8 @@ public final class LearnLoans {
         void turnTo(int life, int plan, long sum) {
             this.life = life;
             this.plan = plan;
+            // Nobody DIES from here on, but that somebody DIED ahead of it stays so.
+            deadAhead = house.people.isDead(person, nextYear - 1);
             due = sum;
             paid = 0;
         }
@@ -1103,7 +1106,7 @@ public final class LearnLoans {
 
         void look(int year) {
             if (life != NONE) {
-                suppose(house.lives[life * YEARS + year], 0, false);
+                suppose(house.lives[life * YEARS + year], 0, deadAhead);
             } else {
                 suppose(house.people.earned(person, year, known),
                         house.people.lands[person * YEARS + year],

@@ -14,10 +14,13 @@ public final class LivesEdgesTest {
         lifeFromAYearOn();
         lifeAtHome();
         lifeWithoutDying();
+        lifeBehindDying();
+        lifeOfWhoDiedAtTheEnds();
         earlyOrNot();
         earlyInYears();
         earlyAsFarAsOwed();
         earlyBehindLeaving();
+        earlyBehindDying();
         choiceOfPlans();
         choiceOfPlansInAll();
         chancesAtFirst();
@@ -221,9 +224,48 @@ public final class LivesEdgesTest {
         x.live(0, 0, 39, 10200);
         is("4 from the year in which he died", x.choice(0, NONE, 0, 10, 39), 2700);
         is("4 from the year ahead", x.choice(0, NONE, 0, 9, 39), 2800);
-        is("4 ahead of it he did: what is drawn later", x.choice(0, NONE, 0, 11, 39), 700);
         x.act(0, 3, 12, 0, 0, 39);
         is("4 struck by years still", x.choice(0, NONE, 0, 10, 39), 200 + 700);
+    }
+
+    /** Who DIED ahead of y stays dead: LOANS are STRUCK, those too that are drawn from y on. */
+    private static void lifeBehindDying() {
+        LearnLoans x = house(0);
+        x.person(0);
+        for (int person = 0; person < 2; person++) {
+            x.loan(person, 0, 0, 10000, false);
+            x.loan(person, 0, 11, 500, false);
+            x.loan(person, 0, 12, 700, false);
+        }
+        x.live(0, 0, 39, 10200);
+        x.image(0);
+        x.dies(0, 10);
+        is("4 in the year in which he died", x.choice(0, NONE, 0, 10, 39), 2000 + 1000);
+        is("4 a year behind it", x.choice(0, NONE, 0, 11, 39), 0);
+        is("4 of the other who did not", x.choice(1, NONE, 0, 11, 39), 1900 + 1000);
+        is("4 two years behind it", x.choice(0, NONE, 0, 12, 39), 0);
+        is("4 in another plan", x.choice(0, 1, 0, 11, 39), 0);
+        is("4 many years behind it", x.choice(0, NONE, 0, 39, 39), 0);
+        is("4 nothing known", x.choice(0, NONE, 0, 11, 0), 0);
+        is("4 in that year again", x.choice(0, NONE, 0, 10, 39), 2000 + 1000);
+        x.from(0);
+        is("4 of the image he did not", x.choice(0, NONE, 0, 11, 39), 1900 + 1000);
+        is("4 and may still", x.dies(0, 11), 1);
+        is("4 from there on not looked at", x.choice(0, NONE, 0, 11, 39), 1900 + 1000);
+        is("4 behind it he is", x.choice(0, NONE, 0, 12, 39), 0);
+    }
+
+    private static void lifeOfWhoDiedAtTheEnds() {
+        int[] died = {0, 0, 38, 38, 39};
+        int[] from = {0, 1, 38, 39, 39};
+        long[] wants = {700, 0, 200, 0, 100};
+        for (int i = 0; i < died.length; i++) {
+            LearnLoans x = house(0);
+            x.loan(0, 0, from[i], 700, false);
+            x.live(2, 0, 39, 10200);
+            x.dies(0, died[i]);
+            is("4 died in " + died[i] + ", from " + from[i], x.choice(0, NONE, 2, from[i], 39), wants[i]);
+        }
     }
 
     // ---- EARLY
@@ -321,6 +363,29 @@ public final class LivesEdgesTest {
         is("4 ahead of it the whole is paid", y.early(0, 1000, 0, 39), 0);
         y.live(0, 0, 0, 12000);
         is("4 a part ahead of it is no help", y.early(0, 500, 0, 39), 0);
+    }
+
+    /** Nothing is owed by who DIED ahead of y, so that nothing is TAKEN that a sum could lessen. */
+    private static void earlyBehindDying() {
+        LearnLoans x = house(100);
+        x.loan(0, 0, 6, 1000, false);
+        for (int life = 0; life < 4; life++) {
+            x.live(life, 7, 7, 90000);
+        }
+        is("4 as nobody died", x.early(0, 500, 6, 39), 15);
+        x.image(0);
+        x.dies(0, 5);
+        is("4 died in 5, drawn and paid in 6", x.early(0, 500, 6, 39), 0);
+        is("4 a penny more than is drawn", x.early(0, 1001, 6, 39), 0);
+        is("4 in 5 there is nothing to pay", x.early(0, 500, 5, 39), 0);
+        x.from(0);
+        x.dies(0, 6);
+        is("4 died in 6 itself", x.early(0, 500, 6, 39), 15);
+        is("4 behind it", x.early(0, 500, 7, 39), 0);
+        x.loan(0, 0, 8, 1000, false);
+        x.live(1, 9, 9, 90000);
+        is("4 in 6 as before", x.early(0, 500, 6, 39), 15);
+        is("4 behind it for what is drawn later, too", x.early(0, 500, 8, 39), 0);
     }
 
     // ---- CHOICE

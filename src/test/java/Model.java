@@ -266,7 +266,8 @@ final class Model {
     private boolean dead(int person, int y, Other other) {
         int died = told.persons.get(person).died;
         if (y < other.from) return died != NONE && died <= y;
-        return other.life == NONE && other.states[y - other.from] == 3;
+        if (other.life != NONE) return died != NONE && died < other.from;
+        return other.states[y - other.from] == 3;
     }
 
     private int rateIn(int loan, int y, int k, long owed, Other other) {

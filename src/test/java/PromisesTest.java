@@ -878,6 +878,10 @@ public final class PromisesTest {
         y.live(2, 0, 39, 100000);
         is("27 behind growing", y.early(0, 1000000000, 1, 39), 0);
         is("27 behind drawing", y.early(0, 1000000000, 0, 39), 0);
+        y.loan(0, 0, 10, 90000, false);
+        is("27 one year's growing less", y.early(0, 50000, 10, 39), 4);
+        y.dies(0, 9);
+        is("27 nothing is owed by who died", y.early(0, 50000, 10, 39), 0);
     }
 
     // ---- 28
@@ -902,6 +906,7 @@ public final class PromisesTest {
         is("28 over moves told for later", x.choice(0, 0, 1, 5, 0), 100000 - 54995);
         x.dies(0, 8);
         is("28 nobody dies", x.choice(0, 0, 1, 5, 0), 100000 - 54995);
+        is("28 but who died ahead of y did", x.choice(0, 0, 1, 9, 0), 0);
         is("28 plan 5", x.choice(0, 5, 1, 0, 0), BAD);
         is("28 plan -2", x.choice(0, -2, 1, 0, 0), BAD);
         is("28 life 4", x.choice(0, 0, 4, 0, 0), BAD);
